@@ -741,11 +741,12 @@ public final class GutterGardens {
          */
         void makePlan(int n, int rain) {
             int width = roofs.number();
-            int plans = 1 << Math.min(width * n, 12);
+            int leads = 1 << Math.min(width * (n - 1), 8);
             planned = 0;
             plannedContent = -1;
             steps.put(0, now);
-            for (int plan = 0; plan < plans && plannedContent < width; plan += sets()) {
+            for (int lead = 0; lead < leads && plannedContent < width; lead++) {
+                int plan = lead << width;
                 for (int i = firstNew(plan, n, width); i < n; i++) {
                     step(i, damsIn(plan, n, i, width), rain);
                 }

@@ -7,6 +7,8 @@ public final class GaugesTest {
         ungauge();
         whoDammed();
         asWhenAsked();
+        eachAnswersByItself();
+        rainInTheGauge();
         otherStreets();
         Due.end();
     }
@@ -77,6 +79,26 @@ public final class GaugesTest {
         asks(x, "with one", 0, GutterGardens.NONE, GutterGardens.NONE);
         x.undo();
         asks(x, "with two again", 1, 0, 0);
+    }
+
+    private static void eachAnswersByItself() {
+        GutterGardens x = Due.on("GR0199W03");
+        x.gauge(1, 0, 0);
+        Due.is("dammed, asked first", x.dammed(false), 1);
+        x.ungauge();
+        Due.is("dammed without gauges", x.dammed(false), 0);
+        x.gauge(1, 0, 999);
+        Due.is("dammed when none fits", x.dammed(true), GutterGardens.NONE);
+    }
+
+    private static void rainInTheGauge() {
+        GutterGardens x = Due.on("GR0193R0193");
+        x.gauge(1, 4, 1);
+        asks(x, "over the dam of roof 1: 1, by its gutter: 1", 4, 0, 3);
+        x.gauge(1, 5, 2);
+        asks(x, "over either: 2", 4, 0, 3);
+        x.gauge(1, 3, 0);
+        asks(x, "to the brim: none", 2, 2, 3);
     }
 
     private static void otherStreets() {

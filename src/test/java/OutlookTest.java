@@ -11,6 +11,7 @@ public final class OutlookTest {
         fewestAndLeast();
         theDamsNowDoNotMatter();
         plan();
+        planAtAsksForItself();
         planOfManyRoofs();
         each();
         outside();
@@ -86,6 +87,12 @@ public final class OutlookTest {
         GutterGardens z = Due.on("GR1929R1919W03");
         Due.is("as many without a dam", z.dams(3, 0), 0);
         Due.is("one", z.enough(3, 0), 1);
+        GutterGardens few = Due.on("GR2939R2239R1739W03W13W22");
+        Due.is("roofs 0 and 1 would do, but roof 2 does it alone", few.dams(3, 0), 4);
+        Due.is("two have enough, too", few.enough(3, 0), 2);
+        GutterGardens most = Due.on("GR1939R1939R0101W03W13");
+        Due.is("a single one would be fewer, but for fewer roofs", most.dams(3, 0), 3);
+        Due.is("all three have enough", most.enough(3, 0), 3);
     }
 
     private static void theDamsNowDoNotMatter() {
@@ -110,6 +117,15 @@ public final class OutlookTest {
         planIs(four, 3, 0, 1, 0, 0);
         Due.is("all keep it", four.plan(2, 0), 4);
         planIs(four, 2, 0, 15, 0);
+    }
+
+    private static void planAtAsksForItself() {
+        Due.is("planAt by itself", Due.on("GR1929R1929W03").planAt(3, 0, 1), 2);
+        GutterGardens x = Due.on("GR1939W03");
+        Due.is("plan for 2", x.plan(2, 0), 0);
+        Due.is("planAt of another one", x.planAt(3, 0, 1), 1);
+        x.quarter(9);
+        Due.is("planAt as things stand", x.planAt(3, 0, 1), 0);
     }
 
     private static void planIs(GutterGardens x, int n, int rain, int... sets) {
