@@ -117,6 +117,9 @@ public final class OutlookTest {
         planIs(four, 3, 0, 1, 0, 0);
         Due.is("all keep it", four.plan(2, 0), 4);
         planIs(four, 2, 0, 15, 0);
+        GutterGardens last = Due.on("GR0101R0101R0101R1929W33");
+        Due.is("the last of four needs it", last.plan(3, 0), 4);
+        planIs(last, 3, 0, 8, 0, 0);
     }
 
     private static void planAtAsksForItself() {
