@@ -581,7 +581,8 @@ public final class GutterGardens {
                 int drunk = Math.min(roofs.soilOf(roof), water[roof]);
                 got[roof] += drunk;
                 spoilt[roof] += takeAway(roof, drunk);
-                int goes = goingFrom(roof, roofs, holds(damBits, roof));
+                int gutter = holds(damBits, roof) ? 0 : roofs.gutterOf(roof);
+                int goes = goingFrom(water[roof], gutter, roofs.brimOf(roof));
                 int along = takeAway(roof, goes);
                 water[roof] += comes;
                 soap[roof] += soapComes;
@@ -594,10 +595,9 @@ public final class GutterGardens {
             return comes;
         }
 
-        private int goingFrom(int roof, Roofs roofs, boolean isDammed) {
-            int there = waterOn(roof);
-            int byGutter = isDammed ? 0 : Math.min(roofs.gutterOf(roof), there);
-            int overBrim = Math.max(0, there - byGutter - roofs.brimOf(roof));
+        private static int goingFrom(int there, int gutter, int brim) {
+            int byGutter = Math.min(gutter, there);
+            int overBrim = Math.max(0, there - byGutter - brim);
             return byGutter + overBrim;
         }
 

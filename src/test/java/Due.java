@@ -2,15 +2,24 @@
 final class Due {
     private static int asked = 0;
     private static int wrong = 0;
+    private static String words = "";
 
     private Due() {
+    }
+
+    /**
+     * The words of the document by which the answers that follow are due. DocTest reads these calls, too: it looks
+     * whether the words stand in that part of the document, and whether any words there are left out.
+     */
+    static void sentence(String part, String quoted) {
+        words = part + ": " + quoted + ": ";
     }
 
     static void is(String call, long got, long want) {
         asked++;
         if (got == want) return;
         wrong++;
-        if (wrong <= 40) System.out.println(call + " answered " + got + ", due is " + want);
+        if (wrong <= 40) System.out.println(words + call + " answered " + got + ", due is " + want);
     }
 
     static void that(String what, boolean holds) {
