@@ -255,20 +255,22 @@ public final class OutlookEdgesTest {
 
     private static void butt() {
         Due.sentence("P13", "What is in THE BUTT behind them (soap = false: WATER, else SOAP).");
-        GutterGardens x = Due.on("GR0199W09");
+        GutterGardens x = Due.on("GR0299W09");
         x.soap(0, 9);
+        x.pail(0, 1);
+        x.soap(0, 8);
         Due.is("behind -1", x.butt(-1, 0, false), OUTSIDE);
         for (int n = 0; n <= 20; n++) {
-            Due.is("water behind " + n, x.butt(n, 0, false), Math.min(n, 9));
-            Due.is("soap behind " + n, x.butt(n, 0, true), Math.min(n, 9));
+            Due.is("water behind " + n, x.butt(n, 0, false), Math.min(2 * n, 8));
+            Due.is("soap behind " + n, x.butt(n, 0, true), Math.min(4 * n, 16));
         }
         Due.is("behind 21", x.butt(21, 0, true), OUTSIDE);
         x.quarter(0);
-        x.pail(0, 4);
+        x.pail(0, 3);
         Due.is("with what is there now", x.butt(20, 0, false), 5);
-        Due.is("what is there now", x.butt(0, 9, true), 1);
+        Due.is("what is there now", x.butt(0, 9, true), 4);
         x.dam(0, true);
-        Due.is("by the dams of now", x.butt(20, 0, false), 1);
+        Due.is("by the dams of now", x.butt(20, 0, false), 2);
     }
 
     private static void damsAsBits() {

@@ -317,6 +317,7 @@ public final class WaterEdgesTest {
             Due.is("no more", x.undo(), STATE);
             Due.is("what is forgotten stays", x.count(3), Math.max(0, acts - 12));
         }
+        ofEachKind();
         GutterGardens y = Due.on("GR0199");
         for (int i = 0; i < 12; i++) y.quarter(1);
         y.undo();
@@ -324,6 +325,21 @@ public final class WaterEdgesTest {
         Due.is("twelve again", y.count(7), 12);
         for (int i = 0; i < 12; i++) y.undo();
         Due.is("none is forgotten", y.count(2), 0);
+    }
+
+    private static void ofEachKind() {
+        GutterGardens x = Due.on("GR0199R0199W09W19");
+        for (int i = 1; i <= 6; i++) {
+            x.pail(0, 1);
+            Due.is("soap, too, is one of them", x.soap(1, 1), i);
+            Due.is("pails and soap", x.count(7), 2 * i);
+        }
+        Due.is("a pail is done when the row is full", x.pail(0, 3), 0);
+        Due.is("soap is put in when the row is full", x.soap(1, 9), 15);
+        Due.is("twelve", x.count(7), 12);
+        for (int i = 11; i >= 0; i--) x.undo();
+        roofIs(x, 0, 8, 0, 0, 0);
+        roofIs(x, 1, 9, 1, 0, 0);
     }
 
     private static void lastActIsUndone() {
@@ -481,13 +497,13 @@ public final class WaterEdgesTest {
     private static void soapToNinetyNine() {
         Due.sentence("P10", "FULL: there would be more than 99.");
         for (int n = 1; n <= 9; n++) {
-            GutterGardens x = Due.on("GR0199W01");
-            for (int i = 0; i < 10; i++) x.soap(0, 9);
-            for (int i = 0; i < 9; i++) x.soap(0, 1);
-            Due.is("100 and more", x.soap(0, n), FULL);
-            Due.is("99 stay", x.roof(0, 1), 99);
-            for (int i = 0; i < n; i++) x.undo();
+            GutterGardens x = withSoap(99 - n);
             Due.is("to 99 by " + n, x.soap(0, n), 99);
+            Due.is("to 100", x.soap(0, 1), FULL);
+            Due.is("99 stay", x.roof(0, 1), 99);
+            GutterGardens y = withSoap(100 - n);
+            Due.is("to 100 by " + n, y.soap(0, n), FULL);
+            Due.is("nothing of it is put in", y.roof(0, 1), 100 - n);
         }
         GutterGardens down = Due.on("GR0999R0199W01W19");
         for (int i = 0; i < 11; i++) {
@@ -497,6 +513,13 @@ public final class WaterEdgesTest {
         down.quarter(0);
         Due.is("what comes down is not refused", down.roof(1, 1), 99 - 11 + 99);
         Due.is("but what is put in", down.soap(1, 1), FULL);
+    }
+
+    private static GutterGardens withSoap(int soap) {
+        GutterGardens x = Due.on("GR0199W01");
+        for (int left = soap; left > 0; left -= 9) x.soap(0, Math.min(9, left));
+        Due.is("soap", x.roof(0, 1), soap);
+        return x;
     }
 
     private static void undoAnswers() {
