@@ -1,43 +1,65 @@
+import java.io.IOException;
 import java.lang.reflect.Constructor;
 import java.lang.reflect.Field;
 import java.lang.reflect.Method;
 import java.lang.reflect.Modifier;
+import java.nio.file.Files;
+import java.nio.file.Path;
 import java.util.ArrayList;
-import java.util.Arrays;
 import java.util.List;
 import java.util.TreeSet;
+import java.util.regex.Matcher;
+import java.util.regex.Pattern;
 
-/** The class has the document's face, its constants, and no other member that is not private. */
+/** The class has the face that the document tells, its constants, and no other member that is not private. */
 public final class FaceTest {
-    private static final String[] FACE = {
-        "int write(int,long)", "int wipe()", "int fault()", "int street()", "int roof(int,int)", "int dam(int,boolean)",
-        "int quarter(int)", "int pail(int,int)", "int soap(int,int)", "int undo()",
-        "int got(int,int,int)", "int butt(int,int,boolean)", "int dams(int,int)", "int enough(int,int)",
-        "int plan(int,int)", "int planAt(int,int,int)", "int each(int,int)",
-        "int gauge(int,int,int)", "int ungauge()", "int fits()", "int dammed(boolean)",
-        "long luck(int,int,int,int,boolean)", "long seed(long)", "int summer(int,int)",
-        "int keep(int)", "int again(int)", "int count(int)"};
+    private static final Path DOC = Path.of("../shared/DOC.md");
+    private static final Pattern METHOD = Pattern.compile("public (int|long) (\\w+)\\(([^)]*)\\);");
+    private static final Pattern CONSTANT = Pattern.compile("([A-Z]+) = (-?\\d+)[,;]");
 
-    public static void main(String[] args) {
+    public static void main(String[] args) throws IOException, ReflectiveOperationException {
         Class<?> face = GutterGardens.class;
+        Matcher block = Pattern.compile("(?s)```java\n(.*?)```").matcher(Files.readString(DOC));
+        Due.that("the document has a face", block.find());
         Due.that("public and final", Modifier.isPublic(face.getModifiers()) && Modifier.isFinal(face.getModifiers()));
-        constants();
-        methods(face);
+        constants(face, block.group(1));
+        methods(face, block.group(1));
         constructors(face);
         fields(face);
         inside(face);
         Due.end();
     }
 
-    private static void constants() {
-        Due.is("UNKNOWN", GutterGardens.UNKNOWN, -1);
-        Due.is("OUTSIDE", GutterGardens.OUTSIDE, -2);
-        Due.is("STATE", GutterGardens.STATE, -3);
-        Due.is("FULL", GutterGardens.FULL, -4);
-        Due.is("NONE", GutterGardens.NONE, -9);
+    private static void constants(Class<?> face, String told) throws ReflectiveOperationException {
+        Matcher constant = CONSTANT.matcher(told);
+        TreeSet<String> names = new TreeSet<>();
+        while (constant.find()) {
+            Field field = face.getDeclaredField(constant.group(1));
+            Due.that(field + " is public static final int", Modifier.isPublic(field.getModifiers())
+                && Modifier.isStatic(field.getModifiers()) && Modifier.isFinal(field.getModifiers())
+                && field.getType() == int.class);
+            Due.is(constant.group(1), field.getInt(null), Integer.parseInt(constant.group(2)));
+            names.add(constant.group(1));
+        }
+        TreeSet<String> shown = new TreeSet<>();
+        for (Field field : face.getDeclaredFields()) {
+            if (!Modifier.isPrivate(field.getModifiers())) shown.add(field.getName());
+        }
+        Due.that("the constants are " + shown, shown.equals(names) && names.size() == 5);
     }
 
-    private static void methods(Class<?> face) {
+    private static TreeSet<String> toldMethods(String told) {
+        TreeSet<String> all = new TreeSet<>();
+        Matcher method = METHOD.matcher(told);
+        while (method.find()) {
+            String types = method.group(3).replaceAll("(\\w+) \\w+", "$1").replace(" ", "");
+            all.add(method.group(1) + " " + method.group(2) + "(" + types + ")");
+        }
+        Due.is("methods that the document tells", all.size(), 27);
+        return all;
+    }
+
+    private static void methods(Class<?> face, String told) {
         TreeSet<String> shown = new TreeSet<>();
         TreeSet<String> names = new TreeSet<>();
         for (Method method : face.getDeclaredMethods()) {
@@ -47,7 +69,7 @@ public final class FaceTest {
             shown.add(signature(method));
             names.add(method.getName());
         }
-        Due.that("the methods are " + shown, shown.equals(new TreeSet<>(Arrays.asList(FACE))));
+        Due.that("the methods are " + shown, shown.equals(toldMethods(told)));
         for (Class<?> one : classesIn(face)) {
             for (Method method : one.getDeclaredMethods()) {
                 boolean isOwn = one != face || Modifier.isPrivate(method.getModifiers());
@@ -69,18 +91,15 @@ public final class FaceTest {
     }
 
     private static void fields(Class<?> face) {
-        TreeSet<String> shown = new TreeSet<>();
         for (Class<?> one : classesIn(face)) {
             int own = 0;
             for (Field field : one.getDeclaredFields()) {
                 boolean isStatic = Modifier.isStatic(field.getModifiers());
                 if (!isStatic) own++;
                 Due.that(field + " is final if static", !isStatic || Modifier.isFinal(field.getModifiers()));
-                if (one == face && !Modifier.isPrivate(field.getModifiers())) shown.add(field.getName());
             }
             Due.that(one + " has some twenty fields at most", own <= 20);
         }
-        Due.that("constants", shown.equals(new TreeSet<>(List.of("UNKNOWN", "OUTSIDE", "STATE", "FULL", "NONE"))));
     }
 
     private static void inside(Class<?> face) {
